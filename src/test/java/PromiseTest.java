@@ -178,6 +178,7 @@ public final class PromiseTest {
         due("again", x.page(), 3);
         due("history", x.count(15), 2);
         due("a faulty one", page(x, "one "), IMPOSSIBLE);
+        due("faulty at once", page(x, " one"), IMPOSSIBLE);
         due("words", x.count(0), 3);
         due("history", x.count(15), 2);
         due("an empty one", page(x, ""), 0);
@@ -198,6 +199,8 @@ public final class PromiseTest {
         due("empty", name(x, ""), IMPOSSIBLE);
         due("two words", name(x, "a b"), IMPOSSIBLE);
         due("with a blank", name(x, "a "), IMPOSSIBLE);
+        due("with a blank at first", name(x, " a"), IMPOSSIBLE);
+        due("no letter at first", name(x, "Ba"), IMPOSSIBLE);
         due("no letter", name(x, "aB"), IMPOSSIBLE);
         due("history", x.count(15), 1);
         due("a start of one", name(x, "abc"), 1);
@@ -220,6 +223,7 @@ public final class PromiseTest {
         due("too long", ending(x, "abcd"), IMPOSSIBLE);
         due("empty", ending(x, ""), IMPOSSIBLE);
         due("no letter", ending(x, "a-"), IMPOSSIBLE);
+        due("no letter at first", ending(x, "-a"), IMPOSSIBLE);
         due("second", ending(x, "ab"), 1);
         due("third", ending(x, "b"), 2);
         due("fourth", ending(x, "c"), 3);
@@ -560,6 +564,13 @@ public final class PromiseTest {
         page(x, "mmmmmmmm");
         x.widen('m', 9);
         due("out of reach of a step of 50", x.stepFor(2), NONE);
+        BlackBars y = made("a mmmmmmzz", "x", "a");
+        y.widen('a', 1);
+        y.widen('z', 7);
+        y.dropEnding(0);
+        due("the greatest step", y.stepFor(2), 50);
+        y.widen('z', 8);
+        due("and none beyond", y.stepFor(2), NONE);
     }
 
     private static void promise22() {
