@@ -563,7 +563,7 @@ public final class BlackBars {
 
         int widthOf(int word, Row letterWidths) {
             int first = word * mostLetters;
-            int behind = first + lengthOf(word);
+            int behind = first + lengths.at(word);
             int width = 0;
             for (int i = first; i < behind; i++) {
                 width += letterWidths.at(letters.at(i) - 'a');
@@ -953,7 +953,7 @@ public final class BlackBars {
         }
 
         boolean isHidden(int word) {
-            return formOf(word) != NO_FORM;
+            return formsOfWords.at(word) != NO_FORM;
         }
 
         int ownWidthOf(int word) {
