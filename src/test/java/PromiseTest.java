@@ -106,6 +106,9 @@ public final class PromiseTest {
         for (int i = 0; i < 26; i++) {
             due("widen of " + letters.charAt(i), x.widen(letters.charAt(i), 5), widths.charAt(i) - '0');
         }
+        due("history", x.count(15), 4);
+        due("history of another object", new BlackBars().count(15), 0);
+        due("widen in another object", new BlackBars().widen('a', 5), 4);
     }
 
     private static void promise2() {
@@ -135,7 +138,9 @@ public final class PromiseTest {
         due("history", x.count(15), 0);
     }
 
-    private static void fault(BlackBars x, String text, int index, int reason) {
+    /** On an object of its own, for nothing is promised behind 512 calls. */
+    private static void fault(String text, int index, int reason) {
+        BlackBars x = new BlackBars();
         text(x, text);
         due("fault(0) of '" + text + "'", x.fault(0), index);
         due("fault(1) of '" + text + "'", x.fault(1), reason);
@@ -146,28 +151,28 @@ public final class PromiseTest {
         BlackBars x = new BlackBars();
         due("fault(-1)", x.fault(-1), INVALID);
         due("fault(2)", x.fault(2), INVALID);
-        fault(x, "", NONE, NONE);
-        fault(x, "a", NONE, NONE);
-        fault(x, "az zz", NONE, NONE);
-        fault(x, "A", 0, 1);
-        fault(x, "az`", 2, 1);
-        fault(x, "az{", 2, 1);
-        fault(x, "a- b", 1, 1);
-        fault(x, " ", 0, 2);
-        fault(x, " a", 0, 2);
-        fault(x, "a ", 1, 2);
-        fault(x, "a  ", 2, 2);
-        fault(x, "a  b!", 2, 2);
-        fault(x, "abcdefghijkl", NONE, NONE);
-        fault(x, "abcdefghijkl a", NONE, NONE);
-        fault(x, "abcdefghijklm", 12, 3);
-        fault(x, "ab abcdefghijklmnopqrs", 15, 3);
-        fault(x, "a ".repeat(39) + "ab", NONE, NONE);
-        fault(x, "a ".repeat(40) + "b", 80, 4);
-        fault(x, "a ".repeat(40) + "bcd", 80, 4);
-        fault(x, "a ".repeat(40), 79, 2);
-        fault(x, "a ".repeat(40) + "!", 80, 1);
-        fault(x, "abcdefghijklm A", 12, 3);
+        fault("", NONE, NONE);
+        fault("a", NONE, NONE);
+        fault("az zz", NONE, NONE);
+        fault("A", 0, 1);
+        fault("az`", 2, 1);
+        fault("az{", 2, 1);
+        fault("a- b", 1, 1);
+        fault(" ", 0, 2);
+        fault(" a", 0, 2);
+        fault("a ", 1, 2);
+        fault("a  ", 2, 2);
+        fault("a  b!", 2, 2);
+        fault("abcdefghijkl", NONE, NONE);
+        fault("abcdefghijkl a", NONE, NONE);
+        fault("abcdefghijklm", 12, 3);
+        fault("ab abcdefghijklmnopqrs", 15, 3);
+        fault("a ".repeat(39) + "ab", NONE, NONE);
+        fault("a ".repeat(40) + "b", 80, 4);
+        fault("a ".repeat(40) + "bcd", 80, 4);
+        fault("a ".repeat(40), 79, 2);
+        fault("a ".repeat(40) + "!", 80, 1);
+        fault("abcdefghijklm A", 12, 3);
     }
 
     private static void promise5() {

@@ -14,6 +14,9 @@ public final class WrongArgumentsTest {
     /** A third argument is tried with these alone. */
     private static final int[] FEW = {Integer.MIN_VALUE, -1, 0, 1, 3, 4, Integer.MAX_VALUE};
 
+    /** With those that make the object and those of the snapshot they stay under 512 calls. */
+    private static final int QUESTIONS_TOGETHER = 100;
+
     private static int wrong = 0;
 
     public static void main(String[] args) throws Exception {
@@ -69,28 +72,35 @@ public final class WrongArgumentsTest {
     }
 
     private static void tryAll(Method method, int kind) throws Exception {
-        int parameters = method.getParameterCount();
-        BlackBars x = made(kind);
-        int[] before = snapshot(x);
+        List<Object[]> calls = allCalls(method.getParameterCount());
+        int[] before = snapshot(made(kind));
+        int together = isChange(method) ? 1 : QUESTIONS_TOGETHER;
+        for (int from = 0; from < calls.size(); from += together) {
+            BlackBars x = made(kind);
+            int answer = 0;
+            for (Object[] arguments : calls.subList(from, Math.min(calls.size(), from + together))) {
+                answer = call(x, method, arguments);
+            }
+            boolean refused = !isChange(method) || answer < -1;
+            if (refused && !Arrays.equals(before, snapshot(x))) {
+                fault(method.getName() + Arrays.toString(calls.get(from)) + " changed something");
+            }
+        }
+    }
+
+    private static List<Object[]> allCalls(int parameters) {
+        List<Object[]> calls = new ArrayList<>();
         int[] firsts = parameters > 0 ? VALUES : new int[] {0};
         int[] seconds = parameters > 1 ? VALUES : new int[] {0};
         int[] thirds = parameters > 2 ? FEW : new int[] {0};
         for (int first : firsts) {
             for (int second : seconds) {
                 for (int third : thirds) {
-                    Object[] all = {first, second, third};
-                    int answer = call(x, method, Arrays.copyOf(all, parameters));
-                    if (isChange(method) && answer >= 0) {
-                        x = made(kind);
-                    } else if (isChange(method) && !Arrays.equals(before, snapshot(x))) {
-                        fault(method.getName() + Arrays.toString(all) + " changed something");
-                    }
+                    calls.add(Arrays.copyOf(new Object[] {first, second, third}, parameters));
                 }
             }
         }
-        if (!isChange(method) && !Arrays.equals(before, snapshot(x))) {
-            fault(method.getName() + " changed something");
-        }
+        return calls;
     }
 
     private static boolean isChange(Method method) {
@@ -117,16 +127,16 @@ public final class WrongArgumentsTest {
         }
     }
 
-    /** All that can be asked of an object, but for the deeper states of its history. */
+    /** So much of what can be asked of an object that its calls stay under 512. */
     private static int[] snapshot(BlackBars x) {
         List<Integer> all = new ArrayList<>();
         for (int what = 0; what < 17; what++) {
             all.add(x.count(what));
         }
         for (int word = 0; word < 40; word++) {
-            for (int what = 0; what < 10; what++) {
-                all.add(x.word(word, what));
-            }
+            all.add(x.word(word, 2));
+            all.add(x.word(word, 4));
+            all.add(x.word(word, 7));
         }
         for (int name = 0; name < 8; name++) {
             for (int ending = -1; ending < 4; ending++) {
